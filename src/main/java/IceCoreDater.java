@@ -669,7 +669,7 @@ public final class IceCoreDater {
             return fitting;
         }
 
-        /** The sum of the absolute residuals; sixteen of them can be more than an int holds. */
+        /** The sum of the absolute residuals as it would be with that function and that kink. */
         long misfit(int withFunction, int withKink) {
             int age = 0;
             long sum = 0;
