@@ -243,6 +243,10 @@ public final class PromiseTests {
         due("divide(3, 1)", x.divide(3, 1), 5);
         due("thickness(3)", x.thickness(3), 1);
         due("thickness(4)", x.thickness(4), 3999);
+        x = threeLayers();
+        x.setAsh(0, 101, 5);
+        x.divide(0, 1000);
+        due("50 and 50 years, within 5 of 101", x.fitting(), 1);
         IceCoreDater full = sixteenLayers(10);
         due("divide(0, 5)", full.divide(0, 5), FULL);
         due("divide(0, 10)", full.divide(0, 10), BAD_VALUE);
@@ -444,6 +448,17 @@ public final class PromiseTests {
         due("tune()", x.tune(), 0);
         due("correction(0)", x.correction(0), 200);
         due("0 years between two beds of one age", x.correction(1), 2001);
+        IceCoreDater old = new IceCoreDater();
+        old.setFunction(2);
+        old.addLayer(5000, 10);
+        old.tellThinning(0, 10);
+        int[] ages = {100000, 100009, 100010, 100020};
+        int[] corrections = {5000, 5000, 4999, 4999};
+        for (int i = 0; i < ages.length; i++) {
+            old.setAsh(0, ages[i], 0);
+            old.tune();
+            due("100000 years with 5000, 100020 with 4999, near " + ages[i], old.correction(0), corrections[i]);
+        }
         x.removeAsh(0);
         x.setAsh(1, 19, 0);
         due("tune()", x.tune(), 0);
@@ -546,6 +561,12 @@ public final class PromiseTests {
             due("acts()", restored.acts(), 7);
             due("undo() of act " + which + " restores all", reading(restored).equals(before) ? 0 : 1, 0);
         }
+        IceCoreDater x = threeLayers();
+        x.setAsh(0, 106, 5);
+        x.setAsh(0, 106, 4);
+        due("fitting()", x.fitting(), 0);
+        x.undo();
+        due("fitting() with the old tolerance", x.fitting(), 1);
     }
 
     private static void undoLeavesTheRest() {
@@ -626,6 +647,8 @@ public final class PromiseTests {
         due("setCloseOff(1)", x.setCloseOff(1), 9);
         due("setFunction(2)", x.setFunction(2), 1);
         due("years(0)", x.years(0), 5);
+        runs(x, "ash 1 50 8", 1, 0);
+        due("42 years are within 8 of 50", x.fitting(), 1);
         runs(x, "count 0 1000000;ash 1 50 7;use linear", 3, 0);
         due("countError(0)", x.countError(0), 5 - 1000000);
         due("residual(1)", x.residual(1), -8);
@@ -777,6 +800,15 @@ public final class PromiseTests {
         due("half of 3 is 1", x.thinning(0), 999);
         x.addLayer(4, 100);
         due("3 and half of 4 is 5", x.thinning(1), 995);
+        x = new IceCoreDater();
+        x.setBed(1000);
+        x.setFunction(1);
+        x.setKink(900);
+        x.addLayer(186, 100);
+        due("y is 907, h is 900: 830.9", x.thinning(0), 830);
+        x.removeLowest();
+        x.addLayer(968, 100);
+        due("y is 516, h is 900: 268.9", x.thinning(0), 268);
         x = new IceCoreDater();
         x.setBed(200000);
         x.addLayer(5000, 100);
@@ -934,6 +966,12 @@ public final class PromiseTests {
         x.addLayer(5000, 10);
         due("depthOf(0)", x.depthOf(0), 0);
         due("depthOf(1)", x.depthOf(1), 3);
+        x = new IceCoreDater();
+        x.setFunction(2);
+        x.addLayer(2, 10);
+        x.correct(0, 600);
+        due("3 years in 2 centimeters", x.depthOf(1), 1);
+        due("3 years in 2 centimeters", x.depthOf(2), 2);
     }
 
     private static void gasDepthOf() {
@@ -996,6 +1034,17 @@ public final class PromiseTests {
         due("the lowest layer has no border", x.inversions(), 0);
         x.divide(0, 1000);
         due("equal delays", x.inversions(), 0);
+        x = new IceCoreDater();
+        x.setFunction(2);
+        x.setCloseOff(200);
+        x.addLayer(2000, 200);
+        x.addLayer(5000, 10);
+        x.correct(1, 5000);
+        x.tellThinning(1, 10);
+        due("gasAge(2000)", x.gasAge(2000), 90);
+        due("gasAge(2001)", x.gasAge(2001), 80);
+        due("gasAge(2002)", x.gasAge(2002), 100);
+        due("1 centimeter below the border counts", x.inversions(), 1);
     }
 
     private static void acts() {
@@ -1048,6 +1097,9 @@ public final class PromiseTests {
         due("the function stays", x.setFunction(1), 0);
         due("the sums are 90, 96 and 60", x.bestFunction(), 2);
         x.removeAsh(1);
+        x.tellThinning(2, 889);
+        x.setAsh(2, 745, 0);
+        due("the sums are 7, 0 and 4", x.bestFunction(), 1);
         x.setAsh(2, 738, 0);
         x.setKink(0);
         due("functions 0 and 1 are the same", x.bestFunction(), 0);
@@ -1094,5 +1146,14 @@ public final class PromiseTests {
         x.setCount(2, 400);
         due("with the told thinning", x.neededAccumulation(2), 100);
         due("the accumulation stays", x.accumulation(2), 100);
+        x = new IceCoreDater();
+        x.setFunction(2);
+        x.addLayer(5000, 10);
+        x.tellThinning(0, 10);
+        x.correct(0, 200);
+        x.setCount(0, 12502);
+        due("12500 years with 2000, 12506 with 1999", x.neededAccumulation(0), 2000);
+        x.setCount(0, 12503);
+        due("the lesser one of two as near", x.neededAccumulation(0), 1999);
     }
 }
