@@ -49,6 +49,7 @@ public final class PromiseTests {
         setCount();
         tune();
         tuneTies();
+        tuneEveryCorrection();
         undo();
         undoRestoresAllOfTheState();
         undoLeavesTheRest();
@@ -466,6 +467,42 @@ public final class PromiseTests {
         due("correction(0)", x.correction(0), 200);
     }
 
+    /** A layer of 500000000 / correction years, no two corrections alike. */
+    private static IceCoreDater oldLayers(int layers) {
+        IceCoreDater x = new IceCoreDater();
+        x.setFunction(2);
+        for (int i = 0; i < layers; i++) {
+            x.addLayer(5000, 10);
+            x.tellThinning(i, 10);
+        }
+        return x;
+    }
+
+    private static void tuneEveryCorrection() {
+        promise = 14;
+        for (int first = 200; first <= 5000; first += 100) {
+            IceCoreDater x = oldLayers(1);
+            for (int c = first; c < first + 100 && c <= 5000; c++) {
+                x.setAsh(0, 500000000 / c, 0);
+                due("tune()", x.tune(), 1);
+                due("correction(0)", x.correction(0), c);
+            }
+        }
+        IceCoreDater full = oldLayers(16);
+        full.setAsh(15, 16 * (500000000 / 777), 0);
+        due("tune() of sixteen layers", full.tune(), 1);
+        for (int i = 0; i < 16; i++) {
+            due("correction(" + i + ")", full.correction(i), 777);
+        }
+        for (int i = 0; i < 16; i++) {
+            full.setAsh(i, (i + 1) * (500000000 / 900), 0);
+        }
+        due("tune() of sixteen segments", full.tune(), 16);
+        for (int i = 0; i < 16; i++) {
+            due("correction(" + i + ")", full.correction(i), 900);
+        }
+    }
+
     private static void undo() {
         promise = 15;
         IceCoreDater x = new IceCoreDater();
@@ -844,6 +881,11 @@ public final class PromiseTests {
         x.addLayer(1, 2000);
         x.correct(0, 5000);
         due("years(0)", x.years(0), 0);
+        x = new IceCoreDater();
+        x.setFunction(2);
+        x.addLayer(5000, 13);
+        x.correct(0, 377);
+        due("10202 * 13 * 377 is just above 50000000", x.years(0), 10201);
     }
 
     private static void delay() {
@@ -1122,6 +1164,11 @@ public final class PromiseTests {
         due("the function stays", x.setFunction(2), 0);
         x.setAsh(2, 771, 0);
         due("bestKink() with the function 2", x.bestKink(), 875);
+        x = new IceCoreDater();
+        x.addLayer(5000, 10);
+        x.correct(0, 200);
+        x.setAsh(0, 25667, 0);
+        due("25641 years with the kink 0, 25667 with 25", x.bestKink(), 25);
     }
 
     private static void neededAccumulation() {
@@ -1155,5 +1202,13 @@ public final class PromiseTests {
         due("12500 years with 2000, 12506 with 1999", x.neededAccumulation(0), 2000);
         x.setCount(0, 12503);
         due("the lesser one of two as near", x.neededAccumulation(0), 1999);
+        for (int first = 25; first <= 2000; first += 200) {
+            x = oldLayers(1);
+            x.correct(0, 200);
+            for (int a = first; a < first + 200 && a <= 2000; a++) {
+                x.setCount(0, 25000000 / a);
+                due("neededAccumulation(0)", x.neededAccumulation(0), a);
+            }
+        }
     }
 }
