@@ -89,15 +89,21 @@ public final class LanguageTests {
         }
         for (Class<?> inside : IceCoreDater.class.getDeclaredClasses()) {
             check(Modifier.isStatic(inside.getModifiers()), "not static: " + inside);
-            check(inside.getDeclaredFields().length <= 40, "too many fields: " + inside);
+            check(fieldsOfObjects(inside) <= 20, "too many fields: " + inside);
             for (Member method : inside.getDeclaredMethods()) {
                 check(!names.contains(method.getName()), "bears the name of a public method: " + method);
             }
         }
+        check(IceCoreDater.class.getDeclaredClasses().length <= 12, "too many classes");
+        check(fieldsOfObjects(IceCoreDater.class) <= 20, "too many fields: " + IceCoreDater.class);
         for (Method method : IceCoreDater.class.getDeclaredMethods()) {
             boolean hidden = Modifier.isPrivate(method.getModifiers());
             check(!hidden || !names.contains(method.getName()), "bears the name of a public method: " + method);
         }
+    }
+
+    private static long fieldsOfObjects(Class<?> type) {
+        return Arrays.stream(type.getDeclaredFields()).filter(field -> !Modifier.isStatic(field.getModifiers())).count();
     }
 
     private static String withoutComments(String source) {
