@@ -1,4 +1,4 @@
-/** The boundary cases that the promises 20 to 41 name. The answers were worked out by hand. */
+/** The boundary cases that the promises 20 to 41 name. The answers were worked out from the document, not from the class. */
 final class AnswerBoundaries extends BoundaryCheck {
     private static final Scene RICH = BoundaryCheck::rich;
 
